@@ -1,0 +1,158 @@
+import java.nio.charset.StandardCharsets;
+
+/** What the tests share: books as text, checks that are counted, a stage's whole face as one text. */
+final class Play {
+    private static int wrong = 0;
+    private static int checks = 0;
+
+    private Play() {
+    }
+
+    static void check(String what, long got, long want) {
+        checks++;
+        if (got != want) {
+            wrong++;
+            System.out.println(what + " answered " + got + ", due is " + want);
+        }
+    }
+
+    static void check(String what, String got, String want) {
+        checks++;
+        if (!got.equals(want)) {
+            wrong++;
+            System.out.println(what + " answered\n  " + got + "\ndue is\n  " + want);
+        }
+    }
+
+    static void finish() {
+        System.out.println(checks + " checks, " + wrong + " wrong");
+        if (wrong != 0 || checks == 0) {
+            System.exit(1);
+        }
+    }
+
+    static byte[] bytes(String text) {
+        return text.getBytes(StandardCharsets.ISO_8859_1);
+    }
+
+    private static int number(byte[] text, int at) {
+        int number = 0;
+        for (int i = at; i < at + 4; i++) {
+            number = number << 8 | (i < text.length ? text[i] & 255 : 0);
+        }
+        return number;
+    }
+
+    /** Puts a text on an empty tape. */
+    static void tape(RewindStage stage, String text) {
+        byte[] text2 = bytes(text);
+        for (int i = 0; i < text2.length; i += 20) {
+            stage.feed(number(text2, i), number(text2, i + 4), number(text2, i + 8), number(text2, i + 12),
+                    number(text2, i + 16));
+        }
+        stage.end(text2.length);
+    }
+
+    static int read(RewindStage stage, String text) {
+        tape(stage, text);
+        return stage.book();
+    }
+
+    static RewindStage on(int players, String text) {
+        RewindStage stage = new RewindStage(players);
+        int definitions = read(stage, text);
+        if (definitions < 1) {
+            throw new IllegalStateException("fault " + stage.fault(0) + " at " + stage.fault(1) + " of " + text);
+        }
+        return stage;
+    }
+
+    /** All of OUTPUT from entry i on, as "frame:what:number ...". */
+    static String said(RewindStage stage, int from) {
+        StringBuilder text = new StringBuilder();
+        for (int i = from; i < stage.count(4); i++) {
+            text.append(i == from ? "" : " ").append(stage.output(i, 0)).append(':');
+            text.append(stage.output(i, 1)).append(':').append(stage.output(i, 2));
+        }
+        return text.toString();
+    }
+
+    static String said(RewindStage stage) {
+        return said(stage, 0);
+    }
+
+    /** What a body of start says, as "what:number ...". */
+    static String says(String body) {
+        RewindStage stage = on(2, ": start " + body + " ;");
+        StringBuilder text = new StringBuilder();
+        for (int i = 0; i < stage.count(4); i++) {
+            text.append(i == 0 ? "" : " ").append(stage.output(i, 1)).append(':').append(stage.output(i, 2));
+        }
+        return text.toString();
+    }
+
+    static void says(String body, String want) {
+        check(body, says(body), want);
+    }
+
+    private static String element(RewindStage stage, int a, int part, int i) {
+        try {
+            return Integer.toString(stage.element(a, part, i));
+        } catch (IndexOutOfBoundsException none) {
+            return "none";
+        }
+    }
+
+    /** What the actors are and have: all that goes back with the stage, but for counts of runs. */
+    static String actors(RewindStage stage) {
+        StringBuilder text = new StringBuilder();
+        for (int a = 0; a < stage.count(3); a++) {
+            text.append("\nactor ").append(a);
+            for (int what = 0; what < 7; what++) {
+                text.append(' ').append(stage.actor(a, what));
+            }
+            for (int part = 0; part < 6; part++) {
+                text.append(" |");
+                for (int what = 0; what < 3; what++) {
+                    text.append(' ').append(stage.held(a, part, what));
+                }
+                for (int i = 0; i < 13 && !element(stage, a, part, i).equals("none"); i++) {
+                    text.append(i == 0 ? " = " : ",").append(element(stage, a, part, i));
+                }
+            }
+        }
+        int parts = stage.count(3) * 6;
+        for (int i = 0; i < parts; i++) {
+            for (int j = i + 1; j < parts; j++) {
+                int sort = stage.held(i / 6, i % 6, 0);
+                if (sort > 2 && stage.alike(i / 6, i % 6, j / 6, j % 6)) {
+                    text.append("\nalike ").append(i).append(' ').append(j);
+                }
+            }
+        }
+        return text.toString();
+    }
+
+    /** The state of the stage at its frame, without how often it was run. */
+    static String scene(RewindStage stage) {
+        StringBuilder text = new StringBuilder();
+        for (int what = 0; what < 10; what++) {
+            boolean runs = what == 5 || what == 6;
+            text.append(runs ? "" : " " + what + "=" + stage.count(what));
+        }
+        return text.append(actors(stage)).append('\n').append(said(stage)).toString();
+    }
+
+    /** All that the face tells: a refused call must leave it as it is. */
+    static String all(RewindStage stage) {
+        StringBuilder text = new StringBuilder(scene(stage));
+        text.append("\nruns ").append(stage.count(5)).append(' ').append(stage.count(6));
+        text.append("\nfault ").append(stage.fault(0)).append(' ').append(stage.fault(1));
+        for (int p = 0; p < 4; p++) {
+            for (int frame = 0; frame <= 140; frame++) {
+                text.append(' ').append(stage.input(p, frame, true)).append('/').append(stage.input(p, frame, false));
+            }
+        }
+        return text.toString();
+    }
+}
