@@ -14,7 +14,7 @@ public final class RewindStage {
     private static final int READ_TOO_OFTEN = -2;
 
     private final byte[] tape = new byte[TAPE_ROOM];
-    private final Reader reader = new Reader();
+    private final Reader reader;
     private final Inputs inputs;
     private final Stage stage;
     private Book spare = new Book();
@@ -22,6 +22,7 @@ public final class RewindStage {
     private int reads;
 
     public RewindStage(int players) {
+        reader = new Reader(tape, spare);
         inputs = new Inputs(Math.max(1, Math.min(Inputs.MOST_PLAYERS, players)));
         stage = new Stage(inputs);
     }
@@ -60,7 +61,7 @@ public final class RewindStage {
             return READ_TOO_OFTEN;
         }
         reads++;
-        reader.read(tape, length, spare);
+        reader.read(length, spare);
         if (reader.number != 0) {
             return NONE;
         }
@@ -771,7 +772,8 @@ public final class RewindStage {
         }
 
         boolean hasPlace(int id, int i) {
-            return isThere(id) && i >= 0 && i < sizes[id] && i < MOST_PLACES;
+            boolean there = id >= 0 && id < made && id < room;
+            return there && i >= 0 && i < sizes[id] && i < MOST_PLACES;
         }
 
         int placeOf(int id, int i) {
@@ -1129,14 +1131,19 @@ public final class RewindStage {
         int number;
         int place = NONE;
 
-        private byte[] tape = new byte[0];
+        private final byte[] tape;
         private int length;
-        private Book book = new Book();
+        private Book book;
         private int mode;
         private int bodyWords;
         private int open;
         private final Word[] opened = new Word[DEEPEST];
         private final int[] openCells = new int[DEEPEST];
+
+        Reader(byte[] tape, Book book) {
+            this.tape = tape;
+            this.book = book;
+        }
 
         /** A name as a number, so that names are looked for without texts; digit is put behind if wanted. */
         static long pack(String letters, int digit, int digits) {
@@ -1147,9 +1154,8 @@ public final class RewindStage {
             return digits == 0 ? name : name * NAME_BASE + digit + 1;
         }
 
-        void read(byte[] text, int size, Book into) {
-            tape = text;
-            length = Math.min(size, text.length);
+        void read(int size, Book into) {
+            length = Math.min(size, tape.length);
             book = into;
             book.clear();
             number = 0;

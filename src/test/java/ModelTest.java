@@ -1,0 +1,48 @@
+import java.util.Random;
+
+/** Books by chance, played on the class and on the model: every answer must be the same. */
+public final class ModelTest {
+    private static int shown = 0;
+
+    private static void compare(String what, String got, String want, String book) {
+        Play.check(what + (got.equals(want) || shown > 2 ? "" : " of" + book), got, want);
+        shown += got.equals(want) ? 0 : 1;
+    }
+
+    private static void play(int seed, int calls) {
+        Random chance = new Random(seed);
+        int players = 1 + chance.nextInt(4);
+        RewindStage stage = new RewindStage(players);
+        Model model = new Model(players);
+        String book = new Author(chance).book();
+        Play.check("book " + seed, Play.read(stage, book), model.read(book));
+        Play.check("fault " + seed, stage.fault(0), model.fault(0));
+        Play.check("place " + seed, stage.fault(1), model.fault(1));
+        compare("start " + seed, Play.scene(stage), model.scene(), book);
+        for (int i = 0; i < calls && shown == 0; i++) {
+            int p = chance.nextInt(players + 1) - (chance.nextInt(30) == 0 ? 1 : 0);
+            int frame = stage.count(0) + 3 - chance.nextInt(18);
+            if (chance.nextInt(3) > 0) {
+                int bits = chance.nextInt(4);
+                Play.check("give " + seed, stage.give(p, frame, bits), model.give(p, frame, bits));
+            } else {
+                int n = 1 + chance.nextInt(5);
+                Play.check("advance " + seed, stage.advance(n), model.advance(n));
+            }
+            Play.check("input " + seed, stage.input(p, frame, false), model.input(p, frame, false));
+            Play.check("known " + seed, stage.input(p, frame, true), model.input(p, frame, true));
+            compare("scene " + seed + " at " + i, Play.scene(stage), model.scene(), book);
+            Play.check("runs " + seed, stage.count(5), model.runs());
+            Play.check("backs " + seed, stage.count(6), model.backs());
+        }
+    }
+
+    public static void main(String[] args) {
+        int games = args.length > 0 ? Integer.parseInt(args[0]) : 300;
+        int first = args.length > 1 ? Integer.parseInt(args[1]) : 0;
+        for (int seed = first; seed < first + games && shown == 0; seed++) {
+            play(seed, 25);
+        }
+        Play.finish();
+    }
+}
