@@ -793,18 +793,20 @@ public final class RewindStage {
             System.arraycopy(other.places, 0, places, 0, made * MOST_PLACES);
         }
 
-        /** Keeps those things alone that the values have, and tells the values where they are now. */
-        void tidy(long[] values) {
+        /** Keeps those things alone that the first values have, and tells these where they are now. */
+        void tidy(long[] values, int count) {
+            int last = Math.min(count, values.length);
             for (int id = 0; id < made && id < room; id++) {
                 moved[id] = NONE;
             }
-            for (int i = 0; i < values.length; i++) {
-                if (Value.isThing(values[i]) && isThere(Value.data(values[i]))) {
-                    moved[Value.data(values[i])] = 0;
+            for (int i = 0; i < last; i++) {
+                int id = Value.data(values[i]);
+                if (Value.isThing(values[i]) && id >= 0 && id < room) {
+                    moved[id] = 0;
                 }
             }
             slide();
-            for (int i = 0; i < values.length; i++) {
+            for (int i = 0; i < last; i++) {
                 int id = Value.data(values[i]);
                 if (Value.isThing(values[i]) && id >= 0 && id < room) {
                     values[i] = Value.of(Value.sort(values[i]), moved[id]);
@@ -862,9 +864,6 @@ public final class RewindStage {
             staged = 0;
             said = 0;
             things.clear();
-            for (int i = 0; i < parts.length; i++) {
-                parts[i] = Value.NIL;
-            }
         }
 
         void copyFrom(State other) {
@@ -876,9 +875,11 @@ public final class RewindStage {
             System.arraycopy(other.order, 0, order, 0, MOST_STAGED);
             System.arraycopy(other.kinds, 0, kinds, 0, MOST_MADE);
             System.arraycopy(other.hurts, 0, hurts, 0, MOST_MADE);
-            System.arraycopy(other.gone, 0, gone, 0, MOST_MADE);
             System.arraycopy(other.motion, 0, motion, 0, MOST_MADE * MOTIONS);
             System.arraycopy(other.parts, 0, parts, 0, MOST_MADE * PARTS);
+            for (int a = 0; a < MOST_MADE; a++) {
+                gone[a] = other.gone[a];
+            }
             things.copyFrom(other.things);
         }
 
@@ -1254,12 +1255,12 @@ public final class RewindStage {
         private void readBodyWord(int from, int to) {
             Word word = findWord(from, to);
             boolean name = word == null && isName(from, to);
-            boolean written = word == null && !name && isNumber(from, to);
-            if (word == null ? !name && !written : !canCome(word)) {
+            boolean comes = word == null ? name || isNumber(from, to) : canCome(word);
+            boolean opens = word == Word.IF || word == Word.WHILE || word == Word.TRY;
+            if (!comes) {
                 refuse(CANNOT_COME, from);
                 return;
             }
-            boolean opens = word == Word.IF || word == Word.WHILE || word == Word.TRY;
             if (bodyWords >= Book.MOST_WORDS || (opens && open >= DEEPEST)) {
                 refuse(TOO_MANY, from);
                 return;
@@ -1267,7 +1268,7 @@ public final class RewindStage {
             bodyWords++;
             if (name) {
                 book.add(Word.CALL, from, packWord(from, to));
-            } else if (written) {
+            } else if (word == null) {
                 book.add(Word.NUMBER, 0, numberOf(from, to));
             } else if (opens) {
                 openStructure(word);
@@ -2471,7 +2472,7 @@ public final class RewindStage {
         }
 
         void runFrame() {
-            now.things.tidy(now.parts);
+            now.things.tidy(now.parts, now.made * State.PARTS);
             saved[Math.floorMod(now.frame, SAVED)].copyFrom(now);
             machine.refuel();
             // The bound is looked at anew each time: those that come meanwhile tick, too.

@@ -388,6 +388,22 @@ public final class WordsTest {
         return text.toString();
     }
 
+    /** With 32 values there is room for no more than a word takes; which faults come first is told. */
+    private static void fullPiles() {
+        String nones = ones(32).replace("1", "none");
+        for (String word : Model.WORDS) {
+            if (word.matches("if|else|end|while|do|try|catch|always|leave|raise")) {
+                continue;
+            }
+            boolean deep = Model.gives(word) > Model.takes(word);
+            String said = Play.says(nones + "try " + word + " catch swap drop swap drop code 8 = say end");
+            Play.check(word + " on a full pile", said.equals("1:1") ? 1 : 0, deep ? 1 : 0);
+            String fewer = Play.says(nones + "drop try " + word + " catch swap drop code 8 = say end");
+            boolean deeper = Model.gives(word) > Model.takes(word) + 1;
+            Play.check(word + " on one of 31", fewer.equals("1:1") ? 1 : 0, deeper ? 1 : 0);
+        }
+    }
+
     private static void deepPiles() {
         gives(ones(32) + "3 say", "10:8");
         faults(ones(32) + "1", DEEP);
@@ -416,6 +432,7 @@ public final class WordsTest {
         partWords();
         placeWords();
         worldWords();
+        fullPiles();
         deepPiles();
         Play.finish();
     }
