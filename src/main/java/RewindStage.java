@@ -13,18 +13,15 @@ public final class RewindStage {
     private static final int TOO_DEAR = -4;
     private static final int READ_TOO_OFTEN = -2;
 
-    private final byte[] tape = new byte[TAPE_ROOM];
-    private final Reader reader;
-    private final Inputs inputs;
+    private final Reader reader = new Reader(TAPE_ROOM);
     private final Stage stage;
-    private Book spare = new Book();
+    private final Inputs inputs;
     private int taped;
     private int reads;
 
     public RewindStage(int players) {
-        reader = new Reader(tape, spare);
-        inputs = new Inputs(Math.max(1, Math.min(Inputs.MOST_PLAYERS, players)));
-        stage = new Stage(inputs);
+        stage = new Stage(Math.max(1, Math.min(Inputs.MOST_PLAYERS, players)));
+        inputs = stage.inputs;
     }
 
     public int feed(int a, int b, int c, int d, int e) {
@@ -41,7 +38,7 @@ public final class RewindStage {
 
     private void lay(int number) {
         for (int shift = 24; shift >= 0 && taped < TAPE_ROOM; shift -= 8) {
-            tape[taped] = (byte) (number >>> shift);
+            reader.tape[taped] = (byte) (number >>> shift);
             taped++;
         }
     }
@@ -61,17 +58,17 @@ public final class RewindStage {
             return READ_TOO_OFTEN;
         }
         reads++;
-        reader.read(length, spare);
+        reader.read(length);
         if (reader.number != 0) {
             return NONE;
         }
-        // A book with a fault must leave the one in use alone: that is why there are two.
-        Book old = stage.book;
-        stage.book = spare;
-        spare = old;
+        // A book with a fault must leave the one in use alone: the reader has one of its own to write in.
+        Book read = reader.book;
+        reader.book = stage.machine.book;
+        stage.machine.book = read;
         inputs.forget();
         stage.begin();
-        return stage.book.definitions;
+        return read.definitions;
     }
 
     public int fault(int what) {
@@ -145,7 +142,7 @@ public final class RewindStage {
             case 0:
                 return now.frame;
             case 1:
-                return stage.book.definitions;
+                return stage.machine.book.definitions;
             case 2:
                 return now.staged;
             case 3:
@@ -1132,18 +1129,17 @@ public final class RewindStage {
         int number;
         int place = NONE;
 
-        private final byte[] tape;
+        final byte[] tape;
+        Book book = new Book();
         private int length;
-        private Book book;
         private int mode;
         private int bodyWords;
         private int open;
         private final Word[] opened = new Word[DEEPEST];
         private final int[] openCells = new int[DEEPEST];
 
-        Reader(byte[] tape, Book book) {
-            this.tape = tape;
-            this.book = book;
+        Reader(int room) {
+            tape = new byte[room];
         }
 
         /** A name as a number, so that names are looked for without texts; digit is put behind if wanted. */
@@ -1155,9 +1151,8 @@ public final class RewindStage {
             return digits == 0 ? name : name * NAME_BASE + digit + 1;
         }
 
-        void read(int size, Book into) {
+        void read(int size) {
             length = Math.min(size, tape.length);
-            book = into;
             book.clear();
             number = 0;
             place = NONE;
@@ -1630,9 +1625,9 @@ public final class RewindStage {
 
         int fuel = FUEL;
         boolean dry;
-        Book book;
-        private final State now;
-        private final Inputs inputs;
+        Book book = new Book();
+        final State now;
+        final Inputs inputs;
         private final Trail trail = new Trail();
         private final long[] pile = new long[PILE_ROOM];
         private final int[] told = new int[MOST_SAID * 3];
@@ -1646,10 +1641,9 @@ public final class RewindStage {
         private int why;
         private int passed;
 
-        Machine(State now, Inputs inputs, Book book) {
-            this.now = now;
-            this.inputs = inputs;
-            this.book = book;
+        Machine(int players, int room) {
+            inputs = new Inputs(players);
+            now = new State(room);
         }
 
         void refuel() {
@@ -2435,18 +2429,18 @@ public final class RewindStage {
         private static final int KITE = 5;
         private static final int RUNNER = 6;
 
-        Book book = new Book();
-        final State now = new State(THINGS);
         final Machine machine;
+        final State now;
+        final Inputs inputs;
         int framesRun;
         int timesBack;
-        private final Inputs inputs;
         private final State[] saved = new State[SAVED];
         private final int[] bodies = new int[State.MOST_STAGED];
 
-        Stage(Inputs inputs) {
-            this.inputs = inputs;
-            machine = new Machine(now, inputs, book);
+        Stage(int players) {
+            machine = new Machine(players, THINGS);
+            now = machine.now;
+            inputs = machine.inputs;
             for (int i = 0; i < SAVED; i++) {
                 saved[i] = new State(KEPT_THINGS);
             }
@@ -2454,10 +2448,9 @@ public final class RewindStage {
 
         void begin() {
             now.clear();
-            machine.book = book;
             machine.refuel();
-            if (book.start != NONE) {
-                machine.run(book.start, NONE, NONE);
+            if (machine.book.start != NONE) {
+                machine.run(machine.book.start, NONE, NONE);
             }
         }
 
@@ -2507,12 +2500,12 @@ public final class RewindStage {
 
         /** The definition of the actor's tick, or NONE if it has none, or none more is done. */
         private int dueTick(int a) {
-            return machine.dry || now.isGone(a) ? NONE : book.tickOf(now.kindOf(a));
+            return machine.dry || now.isGone(a) ? NONE : machine.book.tickOf(now.kindOf(a));
         }
 
         private int dueHit(int a, int other) {
             boolean due = !machine.dry && !now.isGone(a) && !now.isGone(other);
-            return due ? book.hitOf(now.kindOf(a)) : NONE;
+            return due ? machine.book.hitOf(now.kindOf(a)) : NONE;
         }
 
         private boolean isNear(int a, int b, int which) {
