@@ -80,6 +80,31 @@ public final class FlowTest {
         book(": start a ; : a try 5 raise always try 1 0 / catch code say end b end ; : b leave ;", "0:1:6 0:10:9");
     }
 
+    private static String repeat(String text, int times) {
+        StringBuilder all = new StringBuilder();
+        for (int i = 0; i < times; i++) {
+            all.append(text);
+        }
+        return all.toString();
+    }
+
+    /** As deep as the document lets them: twelve within one another, in each of twelve calls. */
+    private static void depths() {
+        gives(repeat("1 if ", 11) + "0 if 5 say else 6 say end " + repeat("7 say else 8 say end ", 11),
+                "1:6" + repeat(" 1:7", 11));
+        gives(repeat("0 if 5 say else ", 12) + "6 say " + repeat("end ", 12) + "7 say", "1:6 1:7");
+        gives(repeat("1 while dup do 1 - ", 12) + "3 say " + repeat("end drop ", 12) + "4 say", "1:3 1:4");
+        gives(repeat("try ", 12) + "5 raise " + repeat("always 6 say end ", 12), repeat("1:6 ", 12) + "10:9");
+        gives(repeat("try ", 12) + "5 raise " + repeat("catch raise end ", 9) + repeat("always end ", 2) + "catch why say end", "1:5");
+        String tries = repeat("try ", 12);
+        book(": start " + tries + "a " + repeat("always end ", 12) + "; : a " + tries + "a " + repeat("always end ", 12)
+                + ";", "0:10:8");
+        book(": start " + tries + "a " + repeat("always end ", 11) + "catch code say end 7 say ; : a " + tries + "a "
+                + repeat("always end ", 12) + ";", "0:1:8 0:1:7");
+        book(": start 0 " + tries + "a " + repeat("always end ", 12) + "say ; : a 1 + dup 11 = if leave end "
+                + repeat("try ", 12) + "a " + repeat("always end ", 12) + ";", "0:1:11");
+    }
+
     private static void piles() {
         // Cut to what the pile had at try, if it has more.
         gives("1 try 2 3 4 5 raise catch why say end say", "1:5 1:1");
@@ -102,6 +127,7 @@ public final class FlowTest {
         calls();
         tries();
         leaves();
+        depths();
         piles();
         Play.finish();
     }

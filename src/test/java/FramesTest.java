@@ -203,6 +203,29 @@ public final class FramesTest {
         Play.check("but no more after", stage.actor(0, 3), bits(1));
     }
 
+    /** An actor whose number was one's ahead of going back, or of a new book, has nothing of that one. */
+    private static void newOnesAreNew() {
+        String fill = " dup 5 swap x! dup 6 swap y! dup 7 swap vx! dup 8 swap vy! dup 1 swap mind! dup 2 swap pal!"
+                + " dup 1 flags swap marks! dup 1 signs swap name! dup 1 smalls swap wear! dup 1 reals swap way! gone";
+        String nothing = " | 0 0 0 | 0 0 0 | 0 0 0 | 0 0 0 | 0 0 0 | 0 0 0";
+        RewindStage stage = Play.on(1, ": start 1 new drop ; : t1 0 input if 3 new drop else 2 new" + fill
+                + " end ; : t2 none len ;");
+        stage.advance(1);
+        Play.check("a body with all", stage.held(1, 5, 0), 4);
+        Play.check("again", stage.give(0, 0, 1), 1);
+        Play.check("a drifter without", Play.actors(stage).split("\n")[2], "actor 1 3 1 1 0 " + bits(99.875f) + " 0 "
+                + bits(-0.125f) + nothing);
+        stage = Play.on(1, ": start 2 new" + fill + " 2 new" + fill + " ; : t2 none len ;");
+        stage.advance(1);
+        Play.read(stage, ": start 2 new drop 2 new drop ;");
+        for (int a = 0; a < 2; a++) {
+            Play.check("new", Play.actors(stage).split("\n")[a + 1], "actor " + a + " 2 " + a + " 0 0 0 0 0"
+                    + nothing);
+        }
+        stage.advance(1);
+        Play.check("nor is it gone", stage.count(2), 2);
+    }
+
     public static void main(String[] args) {
         ticksByKind();
         comingAndGoing();
@@ -210,6 +233,7 @@ public final class FramesTest {
         moves();
         touches();
         goneOnesMove();
+        newOnesAreNew();
         Play.finish();
     }
 }

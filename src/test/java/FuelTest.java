@@ -59,6 +59,8 @@ public final class FuelTest {
         costs("3 ints dup 0 swap 0 2 copy", 4 + 1 + 6 + 2);
         costs("3 ints dup 0 swap 0 0 copy", 4 + 1 + 6);
         costs("none 0 none 0 5 copy", 6 + 5 + 40);
+        costs("none 0 none 0 1 copy", 6 + 1 + 40);
+        costs("none 0 none 0 0 copy", 6 + 40);
         costs("none 0 none 0 12 copy", 6 + 12 + 40);
         costs("none 0 none 0 13 copy", 6 + 40);
         costs("none 0 none 0 -1 copy", 6 + 40);
