@@ -117,7 +117,7 @@ public final class FlowTest {
         gives("1 2 none try + catch code say end say", "1:1 1:1");
         gives("4 try + catch code say end say", "1:7 1:4");
         book(": start 1 try 2 3 a catch drop end say ; : a 4 5 raise ;", "0:1:1");
-        RewindStage stage = Play.on(1, ": start 0 new drop 0 new drop ; : t0 try say catch code say end 5 ;");
+        Game stage = Play.on(1, ": start 0 new drop 0 new drop ; : t0 try say catch code say end 5 ;");
         stage.advance(1);
         Play.check("each event has a pile of its own", Play.said(stage), "0:1:7 0:1:7");
     }

@@ -27,14 +27,14 @@ public final class FramesTest {
                     want.append(want.length() == 0 ? "" : " ").append("0:1:").append(from).append(" 0:9:").append(kind);
                 }
             }
-            RewindStage stage = Play.on(1, book.toString());
+            Game stage = Play.on(1, book.toString());
             stage.advance(1);
             Play.check(book.toString(), Play.said(stage), want.toString());
         }
     }
 
     private static void comingAndGoing() {
-        RewindStage stage = Play.on(1, ": start 0 new drop 1 new drop 0 new drop ;"
+        Game stage = Play.on(1, ": start 0 new drop 1 new drop 0 new drop ;"
                 + " : t0 me say frame 0 = if 1 nth gone end ; : t1 5 say 1 new drop ;");
         stage.advance(1);
         Play.check("a gone one does not tick", Play.said(stage), "0:9:0 0:9:2");
@@ -42,41 +42,41 @@ public final class FramesTest {
         Play.check("those behind move up", stage.actor(2, 1), 1);
         Play.check("on stage", stage.count(2), 2);
 
-        RewindStage more = Play.on(1, ": start 0 new drop ; : t0 me say frame 0 = if 0 new drop end ;");
+        Game more = Play.on(1, ": start 0 new drop ; : t0 me say frame 0 = if 0 new drop end ;");
         more.advance(1);
         Play.check("those that come tick, too", more.count(3), 16);
         Play.check("all sixteen", Play.said(more, 14), "0:9:14 0:9:15");
         more.advance(1);
         Play.check("once each", more.count(4), 32);
 
-        RewindStage stays = Play.on(1, ": start 0 new gone 0 new drop ; : t0 0 nth on say ; : a ;");
+        Game stays = Play.on(1, ": start 0 new gone 0 new drop ; : t0 0 nth on say ; : a ;");
         Play.check("gone in start is still there", stays.count(2), 2);
         stays.advance(1);
         Play.check("until the end of frame 0", Play.said(stays), "0:1:1");
         Play.check("then it is not", stays.actor(0, 1), RewindStage.NONE);
         Play.check("the other one is first", stays.actor(1, 1), 0);
 
-        RewindStage left = Play.on(1, ": start 0 new 1 new dup gone swap mind! ;"
+        Game left = Play.on(1, ": start 0 new 1 new dup gone swap mind! ;"
                 + " : t0 me mind on say me mind kind say me mind gone 7 me mind mind! ;");
         left.advance(2);
         Play.check("one that left can still be had", Play.said(left), "0:1:1 0:1:1 1:1:0 1:1:1");
         Play.check("and has what it is given", left.held(1, 0, 1), 7);
 
-        RewindStage full = Play.on(1, ": start 16 while dup do 0 new drop 1 - end ;"
+        Game full = Play.on(1, ": start 16 while dup do 0 new drop 1 - end ;"
                 + " : t0 me gone 0 new say ; : a ;");
         full.advance(1);
         Play.check("gone ones take their place until the end", full.output(0, 1), 0);
         Play.check("none is left", full.count(2), 0);
         Play.check("sixteen were made", full.count(3), 16);
 
-        RewindStage most = Play.on(1, ": start 0 new drop ; : t0 1 new drop 1 new drop 1 new drop 1 new say ; : t1 me gone ;");
+        Game most = Play.on(1, ": start 0 new drop ; : t0 1 new drop 1 new drop 1 new drop 1 new say ; : t1 me gone ;");
         most.advance(12);
         Play.check("32 in a game", most.count(3), 32);
         Play.check("then there is none", Play.said(most, most.count(4) - 1), "11:0:0");
     }
 
     private static void hurts() {
-        RewindStage stage = Play.on(1, ": start 1 new drop 2 new drop 5 raise ; : t1 none len ; : t2 frame 1 = if 4 raise end ;");
+        Game stage = Play.on(1, ": start 1 new drop 2 new drop 5 raise ; : t1 none len ; : t2 frame 1 = if 4 raise end ;");
         stage.advance(3);
         Play.check("faults are said", Play.said(stage), "0:10:9 0:10:1 1:10:1 1:10:9 2:10:1");
         Play.check("hurts", stage.actor(0, 2), 3);
@@ -89,7 +89,7 @@ public final class FramesTest {
         String book = ": start " + kind + " new dup " + parts[0].replace('_', ' ') + " swap x! dup "
                 + parts[1].replace('_', ' ') + " swap y! dup " + parts[2].replace('_', ' ') + " swap vx! "
                 + parts[3].replace('_', ' ') + " swap vy! ;";
-        RewindStage stage = Play.on(1, book);
+        Game stage = Play.on(1, book);
         stage.advance(1);
         float[] want = {x, y, vx, vy};
         String[] names = {"x", "y", "vx", "vy"};
@@ -149,7 +149,7 @@ public final class FramesTest {
 
     private static void touching(String x, String y, String other, String otherY, boolean want) {
         String book = ": start" + body(3, x, y) + body(3, other, otherY) + " ; : h0 me say ;";
-        RewindStage stage = Play.on(1, book);
+        Game stage = Play.on(1, book);
         stage.advance(1);
         Play.check(book, Play.said(stage), want ? "0:9:0 0:9:1" : "");
     }
@@ -164,39 +164,39 @@ public final class FramesTest {
         touching("51.5", "48.5", "50", "50", true);
         touching("50", "50", "0.0 0.0 /", "50", false);
 
-        RewindStage stage = Play.on(1, ": start" + body(2, "5", "5") + " 0 new drop 1 new drop" + body(4, "5", "5")
+        Game stage = Play.on(1, ": start" + body(2, "5", "5") + " 0 new drop 1 new drop" + body(4, "5", "5")
                 + body(3, "5", "5") + " ; : h2 me say it say ; : h4 4 say me say it say ; : h0 99 say ; : h1 98 say ;");
         stage.advance(1);
         Play.check("each two in order", Play.said(stage), "0:9:0 0:9:3 0:1:4 0:9:3 0:9:0 0:9:0 0:9:4 0:9:4 0:9:0"
                 + " 0:1:4 0:9:3 0:9:4 0:9:4 0:9:3");
 
-        RewindStage gone = Play.on(1, ": start" + body(2, "5", "5") + body(2, "5", "5") + body(2, "5", "5")
+        Game gone = Play.on(1, ": start" + body(2, "5", "5") + body(2, "5", "5") + body(2, "5", "5")
                 + " ; : h2 me say it say it gone ;");
         gone.advance(1);
         Play.check("a gone one touches no more", Play.said(gone), "0:9:0 0:9:1 0:9:0 0:9:2");
 
-        RewindStage self = Play.on(1, ": start" + body(2, "5", "5") + body(2, "5", "5") + " ; : h2 me say me gone ;");
+        Game self = Play.on(1, ": start" + body(2, "5", "5") + body(2, "5", "5") + " ; : h2 me say me gone ;");
         self.advance(1);
         Play.check("nor the second one's event", Play.said(self), "0:9:0");
 
-        RewindStage apart = Play.on(1, ": start" + body(2, "5", "5") + body(2, "5", "5") + body(2, "5", "5")
+        Game apart = Play.on(1, ": start" + body(2, "5", "5") + body(2, "5", "5") + body(2, "5", "5")
                 + " ; : h2 me say 0 nth me same if 50 me x! end ;");
         apart.advance(1);
         Play.check("where they are at their turn", Play.said(apart), "0:9:0 0:9:1 0:9:1 0:9:2");
 
-        RewindStage made = Play.on(1, ": start" + body(2, "0", "0") + body(2, "0", "0") + " ; : h2 2 new say ;");
+        Game made = Play.on(1, ": start" + body(2, "0", "0") + body(2, "0", "0") + " ; : h2 2 new say ;");
         made.advance(1);
         Play.check("those that come do not touch yet", Play.said(made), "0:9:2 0:9:3");
         Play.check("nor did they move", made.actor(2, 4), 0);
 
-        RewindStage hurt = Play.on(1, ": start" + body(2, "5", "5") + body(2, "5", "5") + " ; : h2 3 raise ; : t2 it say ;");
+        Game hurt = Play.on(1, ": start" + body(2, "5", "5") + body(2, "5", "5") + " ; : h2 3 raise ; : t2 it say ;");
         hurt.advance(1);
         Play.check("both are hurt", Play.said(hurt), "0:0:0 0:0:0 0:10:9 0:10:9");
         Play.check("hurts", hurt.actor(0, 2) + hurt.actor(1, 2), 2);
     }
 
     private static void goneOnesMove() {
-        RewindStage stage = Play.on(1, ": start 2 new drop ; : t2 1 me vx! me gone ;");
+        Game stage = Play.on(1, ": start 2 new drop ; : t2 1 me vx! me gone ;");
         stage.advance(1);
         Play.check("it moved with the others before it left", stage.actor(0, 3), bits(1));
         stage.advance(1);
@@ -208,7 +208,7 @@ public final class FramesTest {
         String fill = " dup 5 swap x! dup 6 swap y! dup 7 swap vx! dup 8 swap vy! dup 1 swap mind! dup 2 swap pal!"
                 + " dup 1 flags swap marks! dup 1 signs swap name! dup 1 smalls swap wear! dup 1 reals swap way! gone";
         String nothing = " | 0 0 0 | 0 0 0 | 0 0 0 | 0 0 0 | 0 0 0 | 0 0 0";
-        RewindStage stage = Play.on(1, ": start 1 new drop ; : t1 0 input if 3 new drop else 2 new" + fill
+        Game stage = Play.on(1, ": start 1 new drop ; : t1 0 input if 3 new drop else 2 new" + fill
                 + " end ; : t2 none len ;");
         stage.advance(1);
         Play.check("a body with all", stage.held(1, 5, 0), 4);

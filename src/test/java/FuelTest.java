@@ -18,7 +18,7 @@ public final class FuelTest {
         boolean odd = burnt % 2 == 1;
         String book = ": start" + (odd ? " 0 neg drop" : "") + repeat(" 0 drop", (odd ? burnt - 3 : burnt) / 2)
                 + " " + body + " ;";
-        RewindStage stage = Play.on(1, book);
+        Game stage = Play.on(1, book);
         Play.check(fuel + " for " + body, Play.said(stage), said);
         Play.check("left of " + fuel + " for " + body, stage.count(9), left);
     }
@@ -101,7 +101,7 @@ public final class FuelTest {
 
     private static void frames() {
         String loop = "while 1 do end";
-        RewindStage stage = Play.on(1, ": start 2 new drop 2 new drop 2 new drop ; : t2 frame 1 = if me 1 nth same if "
+        Game stage = Play.on(1, ": start 2 new drop 2 new drop 2 new drop ; : t2 frame 1 = if me 1 nth same if "
                 + loop + " end end 7 say ; : h2 8 say ;");
         stage.advance(1);
         Play.check("frame 0", Play.said(stage), "0:1:7 0:1:7 0:1:7 0:1:8 0:1:8 0:1:8 0:1:8 0:1:8 0:1:8");
@@ -113,17 +113,17 @@ public final class FuelTest {
         stage.advance(1);
         Play.check("frame 2 has all", stage.count(4) - before, 9);
 
-        RewindStage touches = Play.on(1, ": start 2 new drop 2 new drop 2 new drop ; : h2 3 say it 2 nth same if "
+        Game touches = Play.on(1, ": start 2 new drop 2 new drop 2 new drop ; : h2 3 say it 2 nth same if "
                 + loop + " end ;");
         touches.advance(1);
         Play.check("touches", Play.said(touches), "0:1:3 0:1:3 0:1:3 0:11:0");
 
-        RewindStage started = Play.on(1, ": start 2 new drop " + loop + " ; : t2 7 say ;");
+        Game started = Play.on(1, ": start 2 new drop " + loop + " ; : t2 7 say ;");
         Play.check("start", Play.said(started), "0:11:0");
         started.advance(1);
         Play.check("the frame has fuel of its own", Play.said(started), "0:11:0 0:1:7");
 
-        RewindStage shared = Play.on(1, ": start 0 new drop 0 new drop ; : t0 100 while dup do 1 - end drop 7 say ;");
+        Game shared = Play.on(1, ": start 0 new drop 0 new drop ; : t0 100 while dup do 1 - end drop 7 say ;");
         shared.advance(1);
         Play.check("fuel is the frame's, not the event's", Play.said(shared), "0:1:7 0:11:0");
     }

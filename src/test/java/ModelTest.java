@@ -12,7 +12,7 @@ public final class ModelTest {
     private static void play(int seed, int calls) {
         Random chance = new Random(seed);
         int players = 1 + chance.nextInt(4);
-        RewindStage stage = new RewindStage(players);
+        Game stage = new Game(players);
         Model model = new Model(players);
         String book = new Author(chance).book();
         Play.check("book " + seed, Play.read(stage, book), model.read(book));

@@ -9,7 +9,7 @@ public final class P02FeedTest {
     }
 
     public static void main(String[] args) {
-        RewindStage stage = new RewindStage(1);
+        Game stage = new Game(1);
         int fed = stage.feed(number(": st"), number("art "), number("7 sa"), number("y ; "), number("    "));
         Play.check("feed", fed, 20);
         Play.check("bytes", stage.count(7), 20);
@@ -22,7 +22,7 @@ public final class P02FeedTest {
         Play.check("book", stage.book(), RewindStage.NONE);
         Play.check("place", stage.fault(1), 2);
 
-        RewindStage full = new RewindStage(1);
+        Game full = new Game(1);
         for (int i = 1; i <= 200; i++) {
             Play.check("feed " + i, full.feed(0x20202020, 0x20202020, 0x20202020, 0x20202020, 0x20202020), 20 * i);
         }
@@ -38,7 +38,7 @@ public final class P02FeedTest {
         Play.check("place", full.fault(1), 4000);
 
         // Two feeds stand one behind the other, as one text.
-        RewindStage two = new RewindStage(1);
+        Game two = new Game(1);
         Play.tape(two, ": start 12345 say  ;");
         Play.check("bytes", two.count(7), 20);
         two.end(10);

@@ -1,7 +1,7 @@
 /** Promise 3: the tape has its first n bytes alone; NONE if it has fewer, or n is below 0. */
 public final class P03EndTest {
     public static void main(String[] args) {
-        RewindStage stage = new RewindStage(1);
+        Game stage = new Game(1);
         Play.check("end of none", stage.end(0), 0);
         Play.check("end beyond none", stage.end(1), RewindStage.NONE);
         stage.feed(1, 2, 3, 4, 5);
@@ -18,7 +18,7 @@ public final class P03EndTest {
         Play.check("end 0", stage.end(0), 0);
         Play.check("bytes", stage.count(7), 0);
 
-        RewindStage cut = new RewindStage(1);
+        Game cut = new Game(1);
         Play.tape(cut, ": start 1 say ; junk");
         Play.check("end", cut.end(15), 15);
         Play.check("what is cut is not read", cut.book(), 1);

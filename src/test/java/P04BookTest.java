@@ -1,7 +1,7 @@
 /** Promise 4: the tape is read; how many definitions; the start; what stays with a fault; sixty at most. */
 public final class P04BookTest {
     private static void startsAnew() {
-        RewindStage stage = Play.on(2, ": start 2 new drop 5 dice say ; : t0 frame say ;");
+        Game stage = Play.on(2, ": start 2 new drop 5 dice say ; : t0 frame say ;");
         stage.give(0, 0, 9);
         stage.give(1, 3, 7);
         stage.advance(4);
@@ -24,7 +24,7 @@ public final class P04BookTest {
     }
 
     private static void faultLeavesAll() {
-        RewindStage stage = Play.on(2, ": start 2 new drop 5 say ; : t0 frame say 0 input say ;");
+        Game stage = Play.on(2, ": start 2 new drop 5 say ; : t0 frame say 0 input say ;");
         stage.give(0, 0, 9);
         stage.give(0, 1, 8);
         stage.advance(3);
@@ -41,7 +41,7 @@ public final class P04BookTest {
     }
 
     private static void sixtyAtMost() {
-        RewindStage stage = new RewindStage(1);
+        Game stage = new Game(1);
         for (int i = 0; i < 60; i++) {
             boolean good = i % 3 > 0;
             Play.check("book " + i, Play.read(stage, good ? ": start 4 say ;" : ": start 4 say"), good ? 1 : -1);
@@ -59,7 +59,7 @@ public final class P04BookTest {
         StringBuilder forty = new StringBuilder();
         for (int i = 1; i <= 40; i++) {
             forty.append(" : n").append(i).append(" ;");
-            RewindStage stage = new RewindStage(1);
+            Game stage = new Game(1);
             Play.check("definitions", Play.read(stage, forty.toString()), i);
             Play.check("definitions", stage.count(1), i);
         }

@@ -1,7 +1,7 @@
 /** Promise 5: the latest book's fault and its place. */
 public final class P05FaultTest {
     private static void fault(String text, int number, int place) {
-        RewindStage stage = new RewindStage(1);
+        Game stage = new Game(1);
         int answer = Play.read(stage, text);
         boolean good = number == 0;
         Play.check("book of '" + text + "' is good", answer > 0 ? 1 : 0, good ? 1 : 0);
@@ -154,7 +154,7 @@ public final class P05FaultTest {
     }
 
     public static void main(String[] args) {
-        RewindStage stage = new RewindStage(1);
+        Game stage = new Game(1);
         Play.check("ahead of any", stage.fault(0), RewindStage.NONE);
         Play.check("ahead of any", stage.fault(1), RewindStage.NONE);
         Play.read(stage, ": a ? ;");

@@ -1,7 +1,7 @@
 /** Promise 6: up to n frames, and what holds them: an input that is missing, frame 120, 400 frames run. */
 public final class P06AdvanceTest {
     private static void wrongNumbers() {
-        RewindStage stage = Play.on(1, ": start 2 new drop ; : t0 frame say ;");
+        Game stage = Play.on(1, ": start 2 new drop ; : t0 frame say ;");
         String before = Play.all(stage);
         int[] wrong = {0, -1, 17, Integer.MIN_VALUE, Integer.MAX_VALUE};
         for (int n : wrong) {
@@ -13,7 +13,7 @@ public final class P06AdvanceTest {
     }
 
     private static void waitsForInputs() {
-        RewindStage stage = new RewindStage(2);
+        Game stage = new Game(2);
         Play.check("up to frame 12", stage.advance(16), 12);
         Play.check("frame", stage.count(0), 12);
         Play.check("waits", stage.advance(1), 0);
@@ -30,20 +30,15 @@ public final class P06AdvanceTest {
         Play.check("frames run", stage.count(5), 15);
     }
 
-    private static int giveAll(RewindStage stage, int frames) {
-        int given = 0;
-        for (int frame = stage.count(0) - 12; frame < frames; frame++) {
-            given += stage.give(0, frame, 1) == 0 ? 1 : 0;
-        }
-        return given;
-    }
-
     private static void stopsAt120() {
-        RewindStage stage = new RewindStage(1);
+        Game stage = new Game(1);
         int ran = 0;
-        for (int i = 0; i < 20; i++) {
-            giveAll(stage, stage.count(0) + 13);
-            ran += stage.advance(16);
+        int next = 0;
+        for (int i = 0; i < 11; i++) {
+            for (int last = stage.count(0) + 12; next <= last; next++) {
+                Play.check("give " + next, stage.give(0, next, 1), 0);
+            }
+            ran += stage.advance(12);
         }
         Play.check("frames", ran, 120);
         Play.check("frame", stage.count(0), 120);
@@ -53,7 +48,7 @@ public final class P06AdvanceTest {
     }
 
     private static void stopsAt400() {
-        RewindStage stage = new RewindStage(1);
+        Game stage = new Game(1);
         int ran = 0;
         for (int i = 0; i < 33; i++) {
             Play.read(stage, ": a ;");

@@ -9,7 +9,7 @@ public final class P07GiveTest {
             + " : h2 it mind me mind! 1 raise ;";
 
     private static void refusals() {
-        RewindStage stage = Play.on(2, BOOK);
+        Game stage = Play.on(2, BOOK);
         stage.give(0, 0, 1);
         stage.give(1, 0, 1);
         stage.advance(13);
@@ -34,7 +34,7 @@ public final class P07GiveTest {
     }
 
     private static void dearOnes() {
-        RewindStage stage = Play.on(1, BOOK);
+        Game stage = Play.on(1, BOOK);
         int runs = 0;
         for (int book = 0; book < 5; book++) {
             Play.read(stage, BOOK);
@@ -59,7 +59,7 @@ public final class P07GiveTest {
     }
 
     private static void lastFrames() {
-        RewindStage stage = new RewindStage(1);
+        Game stage = new Game(1);
         for (int i = 0; i < 33; i++) {
             Play.read(stage, ": a ;");
             stage.advance(12);
@@ -80,8 +80,8 @@ public final class P07GiveTest {
     private static void orderDoesNotMatter(int seed) {
         Random chance = new Random(seed);
         int[][] bits = new int[2][20];
-        RewindStage early = Play.on(2, BOOK);
-        RewindStage late = Play.on(2, BOOK);
+        Game early = Play.on(2, BOOK);
+        Game late = Play.on(2, BOOK);
         int known = 0;
         for (int frame = 0; frame < 20; frame++) {
             for (int p = 0; p < 2; p++) {

@@ -1,6 +1,6 @@
 /** Promise 8: what a player is taken to do in a frame 0 .. 140, and whether that is known. */
 public final class P08InputTest {
-    private static void inputs(RewindStage stage, int p, int[] want) {
+    private static void inputs(Game stage, int p, int[] want) {
         for (int frame = 0; frame < want.length; frame++) {
             Play.check("input " + p + " of " + frame, stage.input(p, frame, false), want[frame]);
         }
@@ -8,7 +8,7 @@ public final class P08InputTest {
     }
 
     public static void main(String[] args) {
-        RewindStage stage = new RewindStage(3);
+        Game stage = new Game(3);
         inputs(stage, 0, new int[] {0, 0, 0});
         stage.give(0, 2, 7);
         stage.give(0, 5, 255);
@@ -36,7 +36,7 @@ public final class P08InputTest {
         Play.check("frame 0", stage.input(2, 0, true), 0);
 
         // What the scripts see is the same: the latest known one, in start 0.
-        RewindStage seen = Play.on(2, ": start 0 new drop 0 input say 1 input say ; : t0 0 input say 1 input say ;");
+        Game seen = Play.on(2, ": start 0 new drop 0 input say 1 input say ; : t0 0 input say 1 input say ;");
         Play.check("start", Play.said(seen), "0:1:0 0:1:0");
         seen.give(0, 0, 3);
         seen.give(1, 1, 200);

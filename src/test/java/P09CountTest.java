@@ -1,7 +1,7 @@
 /** Promise 9: the counts. */
 public final class P09CountTest {
     public static void main(String[] args) {
-        RewindStage stage = Play.on(2, ": start 2 new drop 0 new gone 9 say 6 dice drop ; : t2 0 input say ; : a ;");
+        Game stage = Play.on(2, ": start 2 new drop 0 new gone 9 say 6 dice drop ; : t2 0 input say ; : a ;");
         int[] atStart = {0, 3, 2, 2, 1, 0, 0, 0, 1103527590, 489};
         for (int what = 0; what < atStart.length; what++) {
             Play.check("count(" + what + ") at start", stage.count(what), atStart[what]);
@@ -20,7 +20,7 @@ public final class P09CountTest {
         }
         Play.check("nothing changed", Play.all(stage), before);
 
-        RewindStage dry = Play.on(1, ": start while 1 do end ;");
+        Game dry = Play.on(1, ": start while 1 do end ;");
         Play.check("no fuel left", dry.count(9), 0);
         Play.check("a frame has its own", dry.advance(1), 1);
         Play.check("all fuel left", dry.count(9), 500);

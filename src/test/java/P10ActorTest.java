@@ -1,7 +1,7 @@
 /** Promise 10: what the actors are, also those that left. */
 public final class P10ActorTest {
     public static void main(String[] args) {
-        RewindStage stage = Play.on(1, ": start 0 new drop 2 new dup 1.5 swap x! dup -2 swap y! dup 0.25 swap vx!"
+        Game stage = Play.on(1, ": start 0 new drop 2 new dup 1.5 swap x! dup -2 swap y! dup 0.25 swap vx!"
                 + " -0.0 swap vy! 5 new drop 6 new gone 1 new drop ; : t1 1 raise ; : t5 none x ;");
         int[] kinds = {0, 2, 5, 6, 1};
         for (int a = 0; a < kinds.length; a++) {
@@ -32,7 +32,7 @@ public final class P10ActorTest {
             Play.check("none such", stage.actor(call[0], call[1]), RewindStage.NONE);
         }
         Play.check("nothing changed", Play.all(stage), before);
-        RewindStage bits = Play.on(1, ": start 2 new dup -1 unbits swap x! dup -8388608 unbits swap y! drop ;");
+        Game bits = Play.on(1, ": start 2 new dup -1 unbits swap x! dup -8388608 unbits swap y! drop ;");
         Play.check("NAN has its own bits", bits.actor(0, 3), 2143289344);
         Play.check("below infinity", bits.actor(0, 4), -8388608);
         Play.finish();

@@ -1,6 +1,6 @@
 /** Promise 11: what an actor's parts are. */
 public final class P11HeldTest {
-    private static void held(RewindStage stage, int a, int part, int sort, int number, int extra) {
+    private static void held(Game stage, int a, int part, int sort, int number, int extra) {
         String name = "held(" + a + ", " + part + ", ";
         Play.check(name + "0)", stage.held(a, part, 0), sort);
         Play.check(name + "1)", stage.held(a, part, 1), number);
@@ -8,7 +8,7 @@ public final class P11HeldTest {
     }
 
     private static void mind(String value, int sort, int number, int extra) {
-        RewindStage stage = Play.on(1, ": start 0 new drop 3 new drop " + value + " 0 nth mind! ;");
+        Game stage = Play.on(1, ": start 0 new drop 3 new drop " + value + " 0 nth mind! ;");
         held(stage, 0, 0, sort, number, extra);
         stage.advance(3);
         held(stage, 0, 0, sort, number, extra);
@@ -33,7 +33,7 @@ public final class P11HeldTest {
         mind("try none len catch end", 10, 1, 0);
         mind("try 5 0 / catch end", 10, 6, 0);
 
-        RewindStage stage = Play.on(1, ": start 2 new dup 3 flags swap marks! dup 4 signs swap name!"
+        Game stage = Play.on(1, ": start 2 new dup 3 flags swap marks! dup 4 signs swap name!"
                 + " dup 5 smalls swap wear! dup 6 reals swap way! dup dup pal! gone ;");
         stage.advance(1);
         Play.check("left", stage.actor(0, 1), RewindStage.NONE);

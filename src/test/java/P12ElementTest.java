@@ -1,6 +1,6 @@
 /** Promise 12: what is at a row's places; IndexOutOfBoundsException where there is no such one. */
 public final class P12ElementTest {
-    private static void none(RewindStage stage, int a, int part, int i) {
+    private static void none(Game stage, int a, int part, int i) {
         int thrown = 0;
         try {
             stage.element(a, part, i);
@@ -11,7 +11,7 @@ public final class P12ElementTest {
     }
 
     private static void row(String making, int... want) {
-        RewindStage stage = Play.on(1, ": start 3 new drop 2 new drop " + making + " 0 nth mind! ;");
+        Game stage = Play.on(1, ": start 3 new drop 2 new drop " + making + " 0 nth mind! ;");
         for (int i = 0; i < want.length; i++) {
             Play.check(making + " at " + i, stage.element(0, 0, i), want[i]);
         }
@@ -29,7 +29,7 @@ public final class P12ElementTest {
         row("0 ints");
         row("12 ints 5 over 11 put", 0, 0, 0, 0, 0, 0, 0, 0, 0, 0, 0, 5);
 
-        RewindStage stage = Play.on(1, ": start 0 new dup 2 flags swap marks! dup 3 signs swap name! 7 swap pal! ;");
+        Game stage = Play.on(1, ": start 0 new dup 2 flags swap marks! dup 3 signs swap name! 7 swap pal! ;");
         Play.check("mark", stage.element(0, 2, 1), 0);
         String before = Play.all(stage);
         int[][] wrong = {{1, 2, 0}, {-1, 2, 0}, {0, 2, 2}, {0, 0, 0}, {0, 1, 0}, {0, 4, 0}, {0, 6, 0}, {0, -1, 0},
@@ -39,7 +39,7 @@ public final class P12ElementTest {
             none(stage, call[0], call[1], call[2]);
         }
         Play.check("nothing changed", Play.all(stage), before);
-        RewindStage others = Play.on(1, ": start 0 new try 3 raise catch over mind! end 0 nth dup pal! ;");
+        Game others = Play.on(1, ": start 0 new try 3 raise catch over mind! end 0 nth dup pal! ;");
         none(others, 0, 0, 0);
         none(others, 0, 1, 0);
         Play.finish();

@@ -1,7 +1,7 @@
 /** Promise 13: whether two parts are one thing, as by same. */
 public final class P13AlikeTest {
     private static void alike(String book, int want) {
-        RewindStage stage = Play.on(1, ": start 0 new drop 0 new drop " + book + " ;");
+        Game stage = Play.on(1, ": start 0 new drop 0 new drop " + book + " ;");
         Play.check(book, stage.alike(0, 0, 1, 1) ? 1 : 0, want);
         Play.check(book + " turned", stage.alike(1, 1, 0, 0) ? 1 : 0, want);
         stage.advance(2);
@@ -31,7 +31,7 @@ public final class P13AlikeTest {
         alike("try 1 raise catch 0 nth mind! end try 1 raise catch 1 nth pal! end", 0);
         alike("try 1 raise catch 0 nth mind! end try 0 nth mind raise catch 1 nth pal! end", 1);
 
-        RewindStage stage = Play.on(1, ": start 0 new dup 2 flags swap marks! dup marks swap mind! ;");
+        Game stage = Play.on(1, ": start 0 new dup 2 flags swap marks! dup marks swap mind! ;");
         Play.check("mind and marks", stage.alike(0, 0, 0, 2) ? 1 : 0, 1);
         Play.check("with itself", stage.alike(0, 2, 0, 2) ? 1 : 0, 1);
         String before = Play.all(stage);

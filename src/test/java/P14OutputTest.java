@@ -1,7 +1,7 @@
 /** Promise 14: what was said, 200 at most. */
 public final class P14OutputTest {
     public static void main(String[] args) {
-        RewindStage stage = Play.on(1, ": start 0 new drop none say 7 say -1 say 1.5 say 2 ints say 3 reals say 4 flags say"
+        Game stage = Play.on(1, ": start 0 new drop none say 7 say -1 say 1.5 say 2 ints say 3 reals say 4 flags say"
                 + " 5 smalls say 6 signs say 7 1 crew say 0 nth say try 3 raise catch say end ; : t0 frame say none x ;");
         String start = "0:0:0 0:1:7 0:1:-1 0:2:" + Float.floatToIntBits(1.5f)
                 + " 0:3:2 0:4:3 0:5:4 0:6:5 0:7:6 0:8:7 0:9:0 0:10:9";
@@ -16,7 +16,7 @@ public final class P14OutputTest {
         }
         Play.check("nothing changed", Play.all(stage), before);
 
-        RewindStage full = Play.on(1, ": start 0 new drop 70 while dup do dup say 1 - end drop ;"
+        Game full = Play.on(1, ": start 0 new drop 70 while dup do dup say 1 - end drop ;"
                 + " : t0 150 while dup do dup say 1 - end raise ;");
         Play.check("said in start", full.count(4), 70);
         full.advance(1);

@@ -44,7 +44,7 @@ final class Play {
     }
 
     /** Puts a text on an empty tape. */
-    static void tape(RewindStage stage, String text) {
+    static void tape(Game stage, String text) {
         byte[] text2 = bytes(text);
         for (int i = 0; i < text2.length; i += 20) {
             stage.feed(number(text2, i), number(text2, i + 4), number(text2, i + 8), number(text2, i + 12),
@@ -53,13 +53,13 @@ final class Play {
         stage.end(text2.length);
     }
 
-    static int read(RewindStage stage, String text) {
+    static int read(Game stage, String text) {
         tape(stage, text);
         return stage.book();
     }
 
-    static RewindStage on(int players, String text) {
-        RewindStage stage = new RewindStage(players);
+    static Game on(int players, String text) {
+        Game stage = new Game(players);
         int definitions = read(stage, text);
         if (definitions < 1) {
             throw new IllegalStateException("fault " + stage.fault(0) + " at " + stage.fault(1) + " of " + text);
@@ -68,24 +68,26 @@ final class Play {
     }
 
     /** All of OUTPUT from entry i on, as "frame:what:number ...". */
-    static String said(RewindStage stage, int from) {
+    static String said(Game stage, int from) {
         StringBuilder text = new StringBuilder();
-        for (int i = from; i < stage.count(4); i++) {
+        int last = stage.count(4);
+        for (int i = from; i < last; i++) {
             text.append(i == from ? "" : " ").append(stage.output(i, 0)).append(':');
             text.append(stage.output(i, 1)).append(':').append(stage.output(i, 2));
         }
         return text.toString();
     }
 
-    static String said(RewindStage stage) {
+    static String said(Game stage) {
         return said(stage, 0);
     }
 
     /** What a body of start says, as "what:number ...". */
     static String says(String body) {
-        RewindStage stage = on(2, ": start " + body + " ;");
+        Game stage = on(2, ": start " + body + " ;");
         StringBuilder text = new StringBuilder();
-        for (int i = 0; i < stage.count(4); i++) {
+        int last = stage.count(4);
+        for (int i = 0; i < last; i++) {
             text.append(i == 0 ? "" : " ").append(stage.output(i, 1)).append(':').append(stage.output(i, 2));
         }
         return text.toString();
@@ -95,7 +97,7 @@ final class Play {
         check(body, says(body), want);
     }
 
-    private static String element(RewindStage stage, int a, int part, int i) {
+    private static String element(Game stage, int a, int part, int i) {
         try {
             return Integer.toString(stage.element(a, part, i));
         } catch (IndexOutOfBoundsException none) {
@@ -103,29 +105,41 @@ final class Play {
         }
     }
 
-    /** What the actors are and have: all that goes back with the stage, but for counts of runs. */
-    static String actors(RewindStage stage) {
+    private static String elements(Game stage, int a, int part) {
         StringBuilder text = new StringBuilder();
-        for (int a = 0; a < stage.count(3); a++) {
+        String at = element(stage, a, part, 0);
+        for (int i = 1; i < 14 && !at.equals("none"); i++) {
+            text.append(i == 1 ? " = " : ",").append(at);
+            at = element(stage, a, part, i);
+        }
+        return text.toString();
+    }
+
+    /** What the actors are and have: all that goes back with the stage, but for counts of runs. */
+    static String actors(Game stage) {
+        StringBuilder text = new StringBuilder();
+        int actors = stage.count(3);
+        int[] sorts = new int[actors * 6];
+        for (int a = 0; a < actors; a++) {
             text.append("\nactor ").append(a);
             for (int what = 0; what < 7; what++) {
                 text.append(' ').append(stage.actor(a, what));
             }
             for (int part = 0; part < 6; part++) {
-                text.append(" |");
-                for (int what = 0; what < 3; what++) {
-                    text.append(' ').append(stage.held(a, part, what));
-                }
-                for (int i = 0; i < 13 && !element(stage, a, part, i).equals("none"); i++) {
-                    text.append(i == 0 ? " = " : ",").append(element(stage, a, part, i));
-                }
+                sorts[a * 6 + part] = stage.held(a, part, 0);
+                text.append(" | ").append(sorts[a * 6 + part]);
+                text.append(' ').append(stage.held(a, part, 1)).append(' ').append(stage.held(a, part, 2));
+                text.append(elements(stage, a, part));
             }
         }
-        int parts = stage.count(3) * 6;
-        for (int i = 0; i < parts; i++) {
-            for (int j = i + 1; j < parts; j++) {
-                int sort = stage.held(i / 6, i % 6, 0);
-                if (sort > 2 && stage.alike(i / 6, i % 6, j / 6, j % 6)) {
+        return text.append(alikes(stage, sorts)).toString();
+    }
+
+    private static String alikes(Game stage, int[] sorts) {
+        StringBuilder text = new StringBuilder();
+        for (int i = 0; i < sorts.length; i++) {
+            for (int j = i + 1; j < sorts.length && sorts[i] > 2; j++) {
+                if (sorts[i] == sorts[j] && stage.alike(i / 6, i % 6, j / 6, j % 6)) {
                     text.append("\nalike ").append(i).append(' ').append(j);
                 }
             }
@@ -134,7 +148,7 @@ final class Play {
     }
 
     /** The state of the stage at its frame, without how often it was run. */
-    static String scene(RewindStage stage) {
+    static String scene(Game stage) {
         StringBuilder text = new StringBuilder();
         for (int what = 0; what < 10; what++) {
             boolean runs = what == 5 || what == 6;
@@ -144,7 +158,7 @@ final class Play {
     }
 
     /** All that the face tells: a refused call must leave it as it is. */
-    static String all(RewindStage stage) {
+    static String all(Game stage) {
         StringBuilder text = new StringBuilder(scene(stage));
         text.append("\nruns ").append(stage.count(5)).append(' ').append(stage.count(6));
         text.append("\nfault ").append(stage.fault(0)).append(' ').append(stage.fault(1));

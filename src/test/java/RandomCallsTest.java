@@ -29,7 +29,7 @@ public final class RandomCallsTest {
         return text.toString();
     }
 
-    private static int element(RewindStage stage, int a, int part, int i) {
+    private static int element(Game stage, int a, int part, int i) {
         try {
             return stage.element(a, part, i);
         } catch (IndexOutOfBoundsException none) {
@@ -42,7 +42,7 @@ public final class RandomCallsTest {
 
     private static final int KINDS_OF_CALL = 14;
 
-    private int call(RewindStage stage, int which) {
+    private int call(Game stage, int which) {
         int[] n = {number(), small(), small(), number(), number()};
         switch (which) {
             case 0:
@@ -77,11 +77,12 @@ public final class RandomCallsTest {
     }
 
     private long play() {
-        RewindStage stage = new RewindStage(number());
+        Game stage = new Game(number());
+        stage.keepQuestions(true);
         long sum = 0;
         Play.read(stage, new Author(chance).book());
-        for (int i = 0; i < 512; i++) {
-            if (chance.nextInt(60) == 0) {
+        while (stage.left() > 1) {
+            if (chance.nextInt(60) == 0 && stage.left() > 210) {
                 sum = sum * 31 + Play.read(stage, chance.nextBoolean() ? bytes() : new Author(chance).book());
             }
             sum = sum * 31 + call(stage, chance.nextInt(KINDS_OF_CALL));

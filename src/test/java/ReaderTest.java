@@ -92,7 +92,7 @@ public final class ReaderTest {
         for (int seed = 0; seed < (args.length > 0 ? Integer.parseInt(args[0]) : 4000); seed++) {
             ReaderTest reader = new ReaderTest(seed);
             String text = seed % 5 == 0 ? reader.words() : reader.text();
-            RewindStage stage = new RewindStage(1);
+            Game stage = new Game(1);
             Model model = new Model(1);
             Play.check("book of '" + text + "'", Play.read(stage, text), model.read(text));
             Play.check("fault of '" + text + "'", stage.fault(0), model.fault(0));
