@@ -2413,8 +2413,8 @@ public final class RewindStage {
     /** The frames: ticks, moves and touches, and the way back to an earlier one. */
     private static final class Stage {
         private static final int LAST_FRAME = 120;
-        /** Inputs may be twelve frames late, and the frame at hand needs a state of its own. */
-        private static final int SAVED = 13;
+        /** Inputs may be twelve frames late: a state as each of these frames began. */
+        private static final int SAVED = 12;
         /** Behind a frame actors can have this many things; in it, each word that makes one costs fuel. */
         private static final int KEPT_THINGS = State.MOST_MADE * State.PARTS;
         private static final int THINGS = KEPT_THINGS + Machine.FUEL + 8;

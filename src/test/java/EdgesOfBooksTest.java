@@ -283,6 +283,51 @@ public final class EdgesOfBooksTest {
         Edge.book(more + "1 ;", 3, more.length());
     }
 
+    private static void allAreDone() {
+        Edge.sentence("600 words in 40 DEFINITIONS: the last of all is done, too");
+        StringBuilder many = new StringBuilder();
+        for (int i = 0; i < 39; i++) {
+            many.append(": n").append(i).append(Edge.repeat(" drop", 15)).append(" ; ");
+        }
+        Game stage = Play.on(1, many + ": start " + Edge.repeat("9 drop ", 6) + "7 8 say ;");
+        Edge.check("definitions", stage.count(1), 40);
+        Edge.check("said", Play.said(stage), "0:1:8");
+        Game calls = Play.on(1, ": start n38 5 say 1 drop 1 drop 1 drop 1 drop 1 drop 1 drop ; "
+                + many.toString().replace(": n38" + Edge.repeat(" drop", 15), ": n38" + Edge.repeat(" 1 drop", 6) + " 4 say leave"));
+        Edge.check("said by the 40th", Play.said(calls), "0:1:4 0:1:5");
+        Game whole = Play.on(1, ": start " + Edge.repeat("0 if 9 say end ", 119) + "0 if else say end ;");
+        Edge.check("said behind 119 jumps", Play.said(whole), "0:10:7");
+    }
+
+    /** A book is read into what an earlier one was read into: nothing of that may be left. */
+    private static void oneBehindTheOther() {
+        Edge.sentence("what one BOOK has is not another's");
+        Game stage = new Game(1);
+        String most = ": a " + Edge.repeat("1 ", 600) + ";";
+        for (int i = 0; i < 3; i++) {
+            Edge.check("600 words each", Play.read(stage, most), 1);
+            Edge.check("601 words", Play.read(stage, most.replace(";", "2 ;")), Edge.NONE);
+            Edge.check("its place", stage.fault(1), 1204);
+        }
+        stage = new Game(1);
+        for (int i = 0; i < 3; i++) {
+            Edge.check("twelve deep, then wrong", Play.read(stage, ": a " + Edge.repeat("if ", 12)), Edge.NONE);
+            Edge.check("twelve deep, then right", Play.read(stage, ": a " + Edge.repeat("if ", 12) + Edge.repeat("end ", 12)
+                    + ";"), 1);
+        }
+        stage = new Game(1);
+        String all = ": start 0 new drop 6 new drop 6 new drop ; : t0 1 say ; : t6 2 say ; : h6 3 say ; : h2 4 say ;";
+        String none = ": begin 0 new drop ; : x0 9 say ;";
+        String few = ": start 0 new drop 6 new drop 6 new drop ; : t5 9 say ; : h5 9 say ; : a ;";
+        String[] books = {all, few, few, all, none, none, few, all, all, few, few};
+        for (String text : books) {
+            Play.read(stage, text);
+            Edge.check("ran", stage.advance(1), 1);
+            Edge.check("said by " + text, Play.said(stage), text.equals(all) ? "0:1:1 0:1:2 0:1:2 0:1:3 0:1:3" : "");
+            Edge.check("actors of " + text, stage.count(3), text.equals(none) ? 0 : 3);
+        }
+    }
+
     private static void unknownNames() {
         Edge.sentence("Behind all: 2 at the first NAME of BODIES that is no DEFINITION");
         Edge.book(": a b ;", 2, 4);
@@ -311,6 +356,8 @@ public final class EdgesOfBooksTest {
         depths();
         wordCounts();
         unknownNames();
+        allAreDone();
+        oneBehindTheOther();
         Play.finish();
     }
 }

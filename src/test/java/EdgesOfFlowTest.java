@@ -53,6 +53,15 @@ public final class EdgesOfFlowTest {
         book(": start 5 try a catch code say end say ; : a a ;", "0:1:8 0:1:5");
     }
 
+    /** Twelve calls with twelve tries open in each: the most that can stand open at once. */
+    private static void mostOpen() {
+        Edge.sentence("never ahead of what is always to be done: twelve tries in each of twelve calls");
+        String body = Edge.repeat("try ", 12) + "a " + Edge.repeat("always 7 say end ", 12) + ";";
+        book(": start " + body + " : a " + body, Edge.repeat("0:1:7 ", 144) + "0:10:8");
+        String inner = Edge.repeat("try ", 12) + "a " + Edge.repeat("always end ", 11) + "always dup say end ;";
+        book(": start 0 a 7 say ; : a 1 + dup 11 = if leave end " + inner, Edge.repeat("0:1:11 ", 10) + "0:1:7");
+    }
+
     private static void cuts() {
         Edge.sentence("the PILE is cut to as many as it had at try, if it has more");
         Edge.gives("1 2 try 3 4 9 raise catch why say end say say", "1:9 1:2 1:1");
@@ -125,6 +134,7 @@ public final class EdgesOfFlowTest {
     public static void main(String[] args) {
         choices();
         calls();
+        mostOpen();
         cuts();
         alwaysParts();
         piles();

@@ -180,6 +180,56 @@ public final class EdgesOfFuelTest {
         Edge.check("but the next event's first word", Play.said(exact), "0:11:0");
     }
 
+    /** Rows and faults as many as the fuel pays for, in each frame and each start: there is room for all. */
+    private static void plenty() {
+        Edge.sentence("All memory is the class's own: what the FUEL pays for can be made");
+        String rows = Edge.repeat("0 ints drop ", 160);
+        Game stage = Play.on(1, ": start 0 new dup 3 ints swap mind! 7 swap mind 1 put ; : t0 " + rows
+                + "2 ints 5 over 0 put me pal! ;");
+        for (int frame = 0; frame < 30; frame++) {
+            stage.give(0, frame, 0);
+            Edge.check("frame " + frame, stage.advance(1), 1);
+            Edge.check("no fault, and fuel", stage.count(4), 0);
+            Edge.check("what is kept", stage.element(0, 0, 1), 7);
+            Edge.check("what is new", stage.element(0, 1, 0), 5);
+            Edge.check("not the other", stage.alike(0, 0, 0, 1) ? 1 : 0, 0);
+        }
+        Edge.check("fuel", stage.count(9), 500 - 480 - 10);
+        Game books = new Game(1);
+        for (int i = 0; i < 20; i++) {
+            Play.read(books, ": start 60 while dup do 0 ints drop 1 - end 0 new 1 ints swap mind! ;");
+            Edge.check("no fault, and fuel", books.count(4), 0);
+            Edge.check("what is new", books.held(0, 0, 1), 1);
+        }
+        Game faults = Play.on(1, ": start 0 new drop ; : t0 " + Edge.repeat("try drop catch me mind! end ", 11) + ";");
+        for (int frame = 0; frame < 12; frame++) {
+            faults.advance(1);
+            Edge.check("fault " + frame, faults.held(0, 0, 1), 7);
+            Edge.check("none passed on", faults.count(4), 0);
+        }
+        held();
+    }
+
+    /** Thirty-two actors with six things each, as many as there can be, and rows besides. */
+    private static void held() {
+        Game stage = Play.on(1, ": start 0 new drop ; : t0 1 new drop 1 new drop 1 new drop ;"
+                + " : t1 1 ints dup me kind 5 + swap 0 put me mind! try 3 raise catch me pal! end 1 flags me marks!"
+                + " 1 signs me name! 1 smalls me wear! 1 reals me way! me gone ;");
+        stage.advance(12);
+        Edge.check("made", stage.count(3), 32);
+        for (int a = 1; a < 32; a++) {
+            int[] sorts = {3, 10, 5, 7, 6, 4};
+            for (int part = 0; part < 6; part++) {
+                Edge.check("part " + part + " of " + a, stage.held(a, part, 0), sorts[part]);
+            }
+            Edge.check("the place", stage.element(a, 0, 0), 6);
+        }
+        Edge.check("run again", stage.give(0, 2, 1), 10);
+        Edge.check("the last one's", stage.element(31, 0, 0), 6);
+        Edge.check("the first one's", stage.element(1, 0, 0), 6);
+        Edge.check("not one thing", stage.alike(31, 0, 1, 0) ? 1 : 0, 0);
+    }
+
     public static void main(String[] args) {
         inAll();
         words();
@@ -188,6 +238,7 @@ public final class EdgesOfFuelTest {
         copies();
         atOnce();
         noEventMore();
+        plenty();
         Play.finish();
     }
 }

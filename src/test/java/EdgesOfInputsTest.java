@@ -235,6 +235,39 @@ public final class EdgesOfInputsTest {
         }
     }
 
+    /** What a late input undoes: an actor that had gone, was hurt, was made. */
+    private static void undone() {
+        Edge.sentence("the stage goes back to that frame: who was gone is not, who was hurt is not");
+        for (int who = 0; who < 3; who++) {
+            Game stage = Play.on(1, ": start 2 new drop 0 new drop 6 new drop ; : t0 frame 2 = 0 input 9 = and if me " + who
+                    + " nth same if me gone end end ;");
+            stage.give(0, 0, 9);
+            stage.advance(3);
+            Edge.check("it left", stage.actor(who, 1), Edge.NONE);
+            Edge.check("again", stage.give(0, 1, 0), 2);
+            Edge.check("it did not", stage.actor(who, 1), who);
+            Edge.check("all are there", stage.count(2), 3);
+            Edge.check("and stay", stage.advance(2), 2);
+            Edge.check("all are there", stage.count(2), 3);
+        }
+        Game hurt = Play.on(1, ": start 0 new drop ; : t0 0 input 9 = if 2 new drop end ; : t2 0 input 9 = if 1 raise end ;");
+        hurt.give(0, 0, 0);
+        hurt.give(0, 1, 9);
+        hurt.advance(5);
+        Edge.check("made", hurt.count(3), 5);
+        Edge.check("hurt", hurt.actor(1, 2), 4);
+        Edge.check("again", hurt.give(0, 3, 0), 2);
+        Edge.check("made", hurt.count(3), 3);
+        Edge.check("hurt", hurt.actor(1, 2), 2);
+        Edge.check("ahead", hurt.give(0, 5, 9), 0);
+        hurt.advance(1);
+        Edge.check("one that is made anew has its own hurts", hurt.actor(3, 2), 1);
+        Play.read(hurt, ": start 0 new drop 0 new drop 0 new drop ;");
+        for (int a = 0; a < 3; a++) {
+            Edge.check("and has none in a new game", hurt.actor(a, 2), 0);
+        }
+    }
+
     public static void main(String[] args) {
         numbersOfFrames();
         missingInputs();
@@ -244,6 +277,7 @@ public final class EdgesOfInputsTest {
         taken();
         goingBack();
         takenBack();
+        undone();
         Play.finish();
     }
 }

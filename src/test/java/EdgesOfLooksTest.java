@@ -143,6 +143,15 @@ public final class EdgesOfLooksTest {
         }
         Edge.works(Edge.repeat("none ", 31) + "1 if end");
         Edge.works(Edge.repeat("none ", 32) + "try always end");
+        Edge.sentence("8 DEEP: not of what puts nothing, however many there are");
+        String[] full = {Edge.repeat("none ", 32), Edge.repeat("none ", 32) + "try 1 catch "};
+        for (int i = 0; i < full.length; i++) {
+            String ends = i == 0 ? "" : " end";
+            for (String word : new String[] {"d", "leave", "try always end", "try d always leave end", "d d drop d"}) {
+                Game stage = Play.on(1, ": start " + full[i] + word + ends + " ; : d ;");
+                Edge.check(word + " on a full pile", Play.said(stage), "");
+            }
+        }
     }
 
     private static void ownRules() {
