@@ -44,12 +44,13 @@ public final class EdgesOfBooksTest {
         Edge.goodBook(":\na\n1\n;");
         Edge.goodBook("  :\n \na  1 \n\n ;  ");
         Edge.goodBook("\n: a ;\n");
-        for (int other = 0; other < 256; other++) {
-            if (other != 32 && other != 10) {
-                char letter = (char) other;
-                // Beside a digit it makes one word of both: right only as a digit, or as a name behind a letter.
-                boolean digit = letter >= '0' && letter <= '9';
-                Edge.book(": a 1" + letter + "1 ;", digit ? 0 : letter == '.' ? 0 : 1, digit || letter == '.' ? Edge.NONE : 4);
+        for (char other = 0; other < 256; other++) {
+            // No blank, it makes one word of the two digits beside it: right only as a digit or a point.
+            boolean number = other >= '0' && other <= '9' || other == '.';
+            if (number) {
+                Edge.goodBook(": a 1" + other + "1 ;");
+            } else if (other != 32 && other != 10) {
+                Edge.book(": a 1" + other + "1 ;", 1, 4);
             }
         }
     }
