@@ -37,11 +37,51 @@ public final class ModelTest {
         }
     }
 
+    /** A frame whose input is worth giving: often the first that is not known, so that the stage can go on. */
+    private static int frameToGive(Game stage, int p, Random chance) {
+        int present = stage.count(0);
+        int frame = Math.max(0, present - 13);
+        while (chance.nextInt(20) > 0 && frame < present && stage.input(p, frame, true) == 1) {
+            frame++;
+        }
+        return chance.nextInt(3) > 0 ? frame : present + chance.nextInt(27) - 13;
+    }
+
+    /** On to the last frame, or to the last of the frames that may be run, and on behind them. */
+    private static void playLong(int seed) {
+        Random chance = new Random(seed);
+        int players = 1 + chance.nextInt(4);
+        int inputs = 1 + chance.nextInt(3);
+        Game stage = new Game(players);
+        Model model = new Model(players);
+        String book = new Author(chance).book();
+        Play.check("long book " + seed, Play.read(stage, book), model.read(book));
+        for (int i = 0; i < 230 && shown == 0; i++) {
+            if (chance.nextInt(4) > 0) {
+                int p = chance.nextInt(players);
+                int frame = frameToGive(stage, p, chance);
+                int bits = chance.nextInt(inputs);
+                Play.check("long give " + seed, stage.give(p, frame, bits), model.give(p, frame, bits));
+            } else {
+                int n = 1 + chance.nextInt(16);
+                Play.check("long advance " + seed, stage.advance(n), model.advance(n));
+            }
+            if (i % 10 == 9) {
+                compare("long scene " + seed + " at " + i, Play.scene(stage), model.scene(), book);
+                Play.check("long runs " + seed, stage.count(5), model.runs());
+                Play.check("long backs " + seed, stage.count(6), model.backs());
+            }
+        }
+    }
+
     public static void main(String[] args) {
         int games = args.length > 0 ? Integer.parseInt(args[0]) : 300;
         int first = args.length > 1 ? Integer.parseInt(args[1]) : 0;
         for (int seed = first; seed < first + games && shown == 0; seed++) {
             play(seed, 25);
+            if (seed % 10 == 0) {
+                playLong(seed);
+            }
         }
         Play.finish();
     }
