@@ -47,7 +47,7 @@ public final class ModelTest {
         return chance.nextInt(3) > 0 ? frame : present + chance.nextInt(27) - 13;
     }
 
-    /** On to the last frame, or to the last of the frames that may be run, and on behind them. */
+    /** Long enough that many games come to the last frame, or use up all the frames that may be run. */
     private static void playLong(int seed) {
         Random chance = new Random(seed);
         int players = 1 + chance.nextInt(4);
