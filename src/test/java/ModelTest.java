@@ -10,7 +10,7 @@ public final class ModelTest {
     }
 
     private static void play(int seed, int calls) {
-        Random chance = new Random(seed);
+        Random chance = Play.chance(seed);
         int players = 1 + chance.nextInt(4);
         Game stage = new Game(players);
         Model model = new Model(players);
@@ -37,19 +37,22 @@ public final class ModelTest {
         }
     }
 
-    /** A frame whose input is worth giving: often the first that is not known, so that the stage can go on. */
+    /** A frame whose input is worth giving: mostly the first that is not known, so that the stage can go on. */
     private static int frameToGive(Game stage, int p, Random chance) {
         int present = stage.count(0);
-        int frame = Math.max(0, present - 13);
-        while (chance.nextInt(20) > 0 && frame < present && stage.input(p, frame, true) == 1) {
+        if (chance.nextInt(5) == 0) {
+            return present + chance.nextInt(27) - 13;
+        }
+        int frame = Math.max(0, present - 12);
+        while (frame < present && stage.input(p, frame, true) == 1) {
             frame++;
         }
-        return chance.nextInt(3) > 0 ? frame : present + chance.nextInt(27) - 13;
+        return frame;
     }
 
     /** Long enough that many games come to the last frame, or use up all the frames that may be run. */
     private static void playLong(int seed) {
-        Random chance = new Random(seed);
+        Random chance = Play.chance(seed);
         int players = 1 + chance.nextInt(4);
         int inputs = 1 + chance.nextInt(3);
         Game stage = new Game(players);

@@ -78,7 +78,7 @@ public final class P07GiveTest {
 
     /** Whatever the order in which inputs come, the stage is as if all had been known ahead. */
     private static void orderDoesNotMatter(int seed) {
-        Random chance = new Random(seed);
+        Random chance = Play.chance(seed);
         int[][] bits = new int[2][20];
         Game early = Play.on(2, BOOK);
         Game late = Play.on(2, BOOK);

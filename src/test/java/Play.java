@@ -1,4 +1,5 @@
 import java.nio.charset.StandardCharsets;
+import java.util.Random;
 
 /** What the tests share: books as text, checks that are counted, a stage's whole face as one text. */
 final class Play {
@@ -29,6 +30,11 @@ final class Play {
         if (wrong != 0 || checks == 0) {
             System.exit(1);
         }
+    }
+
+    /** Random begins alike for seeds that lie near one another: these are put far apart first. */
+    static Random chance(int seed) {
+        return new Random((seed + 1) * 0x9e3779b97f4a7c15L);
     }
 
     static byte[] bytes(String text) {

@@ -9,7 +9,7 @@ public final class RandomCallsTest {
     private final Random chance;
 
     private RandomCallsTest(int seed) {
-        chance = new Random(seed);
+        chance = Play.chance(seed);
     }
 
     private int number() {

@@ -9,7 +9,7 @@ public final class ReaderTest {
     private final Random chance;
 
     private ReaderTest(int seed) {
-        chance = new Random(seed);
+        chance = Play.chance(seed);
     }
 
     private String pick() {
